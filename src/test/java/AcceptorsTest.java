@@ -51,6 +51,9 @@ public final class AcceptorsTest {
         }
         due.is("undo()", x.undo(), 2);
         due.is("setSecond(3) without", x.setSecond(3), 1);
+        due.is("setSecond(4)", x.setSecond(4), 3);
+        due.is("undo()", x.undo(), 3);
+        due.is("count(3)", x.count(3), 3);
         for (int p = 0; p < 3; p++) {
             AgreedSlots y = new AgreedSlots();
             y.prepare(p);

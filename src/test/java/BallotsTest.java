@@ -10,7 +10,9 @@ public final class BallotsTest {
         heardIsTheGreatest(due);
         propose(due);
         proposeTakesOver(due);
+        greatestIsTakenOverInAnyOrder(due);
         toldVotesStayAsTheyWere(due);
+        lastSlot(due);
         onlyVotersTell(due);
         windowAndChanges(due);
         vote(due);
@@ -209,6 +211,46 @@ public final class BallotsTest {
         due.is("11 of ballot 1 alone was told", x.propose(0, 1, 44), 11);
         due.is("vote(0, 1, 1)", x.vote(0, 1, 1), 1);
         due.is("value of the vote", x.voted(1, 1, 1), 11);
+    }
+
+    private static void greatestIsTakenOverInAnyOrder(Due due) {
+        AgreedSlots x = new AgreedSlots();
+        Steps.lead(x, 0, 6);
+        x.propose(0, 1, 11);
+        x.vote(0, 1, 2);
+        Steps.lead(x, 1, 3);
+        x.propose(1, 1, 22);
+        x.vote(1, 1, 0);
+        x.prepare(2);
+        due.is("2 tells its vote", x.promise(2, 2), 1);
+        due.is("11 is bound", x.proposed(2, 1, 1), 11);
+        x.promise(2, 0);
+        due.is("22 of the greater ballot is", x.proposed(2, 1, 1), 22);
+        x.promise(2, 1);
+        due.is("propose(2, 1, 33)", x.propose(2, 1, 33), 22);
+    }
+
+    private static void lastSlot(Due due) {
+        AgreedSlots x = Steps.chosenUpTo(15);
+        due.is("propose(0, 16, 163)", x.propose(0, 16, 163), 163);
+        due.is("vote(0, 16, 2)", x.vote(0, 16, 2), 1);
+        due.is("votes of 2", x.acceptor(2, 2), 1);
+        due.is("proposer(0, 3)", x.proposer(0, 3), 16);
+        x.prepare(1);
+        due.is("promise(1, 2)", x.promise(1, 2), 1);
+        due.is("promise(1, 1)", x.promise(1, 1), 15);
+        due.is("proposed(1, 16, 1)", x.proposed(1, 16, 1), 163);
+        due.is("propose(1, 16, 1)", x.propose(1, 16, 1), 163);
+        x.vote(1, 16, 2);
+        due.is("vote(1, 16, 1)", x.vote(1, 16, 1), 2);
+        due.is("chosen", x.count(1), 16);
+        due.is("a change that comes too late", x.count(8), 1);
+        x.prepare(1);
+        due.is("forgotten", x.proposed(1, 16, 0), Steps.NONE);
+        due.is("trim(16)", x.trim(16), 32);
+        due.is("no votes", x.acceptor(2, 2), 0);
+        due.is("slot(16, 0)", x.slot(16, 0), 163);
+        due.is("slot(16, 2)", x.slot(16, 2), 7);
     }
 
     private static void toldVotesStayAsTheyWere(Due due) {

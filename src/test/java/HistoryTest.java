@@ -4,6 +4,8 @@ public final class HistoryTest {
         Due due = new Due("promises 13 to 15");
         undo(due);
         undoBringsAllBack(due);
+        undoBringsToldVotesBack(due);
+        undoBringsToldBallotsBack(due);
         oldestIsDropped(due);
         snapshot(due);
         restoreIsAnAct(due);
@@ -55,6 +57,50 @@ public final class HistoryTest {
             Steps.perform(x, orders[last - again]);
         }
         due.holds("the same calls, the same state", now.equals(Steps.picture(x)));
+    }
+
+    private static void undoBringsToldVotesBack(Due due) {
+        AgreedSlots x = Steps.chosenUpTo(1);
+        Steps.lead(x, 1, 3);
+        x.propose(1, 2, 40);
+        x.vote(1, 2, 0);
+        due.is("told of slot 1", x.proposed(1, 1, 1), 1);
+        due.is("told nothing of slot 2", x.proposed(1, 2, 1), 0);
+        x.keep();
+        x.prepare(1);
+        x.promise(1, 0);
+        due.is("told of slot 2", x.proposed(1, 2, 1), 40);
+        x.undo();
+        x.undo();
+        due.is("told nothing of slot 2", x.proposed(1, 2, 1), 0);
+        Steps.lead(x, 1, 1);
+        x.trim(1);
+        Steps.lead(x, 1, 1);
+        due.is("told nothing of slot 1", x.proposed(1, 1, 1), 0);
+        x.restore();
+        due.is("restored: told of slot 1", x.proposed(1, 1, 1), 1);
+        due.is("restored: told nothing of slot 2", x.proposed(1, 2, 1), 0);
+    }
+
+    private static void undoBringsToldBallotsBack(Due due) {
+        AgreedSlots x = new AgreedSlots();
+        Steps.lead(x, 0, 3);
+        x.propose(0, 1, 11);
+        x.vote(0, 1, 0);
+        Steps.lead(x, 1, 6);
+        x.propose(1, 1, 22);
+        x.vote(1, 1, 2);
+        Steps.lead(x, 2, 5);
+        due.is("22 of ballot 2, ahead of 11 of ballot 1", x.proposed(2, 1, 1), 22);
+        Steps.lead(x, 0, 3);
+        x.propose(0, 1, 33);
+        x.vote(0, 1, 0);
+        x.prepare(2);
+        due.is("promise(2, 0)", x.promise(2, 0), 1);
+        due.is("11 of ballot 4", x.proposed(2, 1, 1), 11);
+        x.undo();
+        x.undo();
+        due.is("22 of ballot 2 again", x.proposed(2, 1, 1), 22);
     }
 
     private static void oldestIsDropped(Due due) {

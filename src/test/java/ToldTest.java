@@ -123,6 +123,12 @@ public final class ToldTest {
         due.is("one latest vote of ballot 1", x.could(1, 1), 0);
         due.is("ballot 2", x.could(1, 2), 1);
         due.is("a ballot between votes and promises", x.could(1, 3), 1);
+        AgreedSlots z = new AgreedSlots();
+        Steps.lead(z, 0, 3);
+        z.propose(0, 1, 7);
+        z.vote(0, 1, 0);
+        Steps.lead(z, 1, 6);
+        due.is("a voter counts once, by its vote and its promise", z.could(1, 1), 0);
         AgreedSlots y = new AgreedSlots();
         Steps.lead(y, 0, 3);
         y.propose(0, 1, 7);
@@ -209,6 +215,7 @@ public final class ToldTest {
         for (int bad : Steps.HOSTILE) {
             due.is("count(" + bad + ")", x.count(bad), Steps.BAD_VALUE);
         }
+        due.is("a slot of the value 1 is chosen", Steps.chosenUpTo(1).count(1), 1);
         int[] open = {3, 4, 5, 6, 7, 8, 9, 10, 11, 12, 13, 14, 15, 16, 16, 16, 16};
         for (int last = 0; last <= 16; last++) {
             AgreedSlots y = Steps.chosenUpTo(last);

@@ -24,7 +24,8 @@ public final class LanguageTest {
     private static final Set<String> CONSTANTS = Set.of("UNKNOWN", "BAD_VALUE", "FULL", "NOT_POSSIBLE", "NONE");
     private static final String[] NOT_ALLOWED = {"\\bthrow", "\\btry\\b", "\\bcatch\\b", "\\bfinally\\b",
         "\\bimport\\b", "\\bpackage\\b", "\\bsynchronized\\b", "\\bassert\\b", "->", "::", "\\bvolatile\\b",
-        "static\\s*\\{", "\\bequals\\b", "\\bhashCode\\b", "\\btoString\\b", "\\bSystem\\.(?!arraycopy)", "\\bObject\\b",
+        "static\\s*\\{", "\\bequals\\b", "\\bhashCode\\b", "\\btoString\\b",
+        "\\bSystem\\.(?!arraycopy)", "\\bObject\\b",
         "\\bThread\\b", "\\bString\\[", "Exact\\b", "\\bprotected\\b", "\\[\\]\\["};
 
     public static void main(String[] args) throws IOException {

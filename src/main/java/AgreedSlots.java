@@ -777,7 +777,7 @@ public final class AgreedSlots {
         int read(Text text) {
             at = 0;
             size = 0;
-            while (size < MOST) {
+            for (int order = 0; order < MOST; order++) {
                 if (!readOrder(text)) {
                     return at;
                 }

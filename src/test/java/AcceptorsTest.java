@@ -31,6 +31,11 @@ public final class AcceptorsTest {
             due.is("setUp(" + bad + ", false)", x.setUp(bad, false), Steps.UNKNOWN);
         }
         due.is("count(4) still", x.count(4), 8);
+        int[] rest = {0, 1, 2, 4, 5};
+        for (int i = 0; i < rest.length; i++) {
+            due.is("setUp(" + rest[i] + ", true)", x.setUp(rest[i], true), i + 2);
+        }
+        due.is("all are up", x.count(4), 63);
     }
 
     private static void setSecond(Due due) {

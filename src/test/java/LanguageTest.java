@@ -52,6 +52,7 @@ public final class LanguageTest {
         Set<String> publicNames = new TreeSet<>();
         Set<String> otherNames = new TreeSet<>();
         for (Method m : c.getDeclaredMethods()) {
+            due.holds(m.getName() + " has at most seven parameters", m.getParameterCount() <= 7);
             if (Modifier.isPublic(m.getModifiers())) {
                 due.holds(m.getName() + " is no static one", !Modifier.isStatic(m.getModifiers()));
                 publicForms.add(form(m));
@@ -64,6 +65,7 @@ public final class LanguageTest {
         due.holds("the methods of the face", publicForms.equals(new TreeSet<>(Arrays.asList(FACE))));
         for (Class<?> inside : c.getDeclaredClasses()) {
             for (Method m : inside.getDeclaredMethods()) {
+                due.holds(m.getName() + " has at most seven parameters", m.getParameterCount() <= 7);
                 otherNames.add(m.getName());
             }
         }
@@ -111,6 +113,7 @@ public final class LanguageTest {
             due.holds("no " + rule, !m.find());
         }
         List<String> lines = code.lines().toList();
+        loops(due, lines);
         String opens = "    (    )?(public|private|static|final|int|void|boolean|String).*\\) \\{";
         int begin = -1;
         for (int i = 0; i < lines.size(); i++) {
@@ -121,6 +124,21 @@ public final class LanguageTest {
                 due.holds("at most sixty lines: " + lines.get(begin), i - begin < 60);
                 begin = -1;
             }
+        }
+    }
+
+    /** The end of a loop is seen from its own lines: its counter stands ahead of a bound, and is counted there. */
+    private static void loops(Due due, List<String> lines) {
+        Pattern head = Pattern.compile("( *)(?:while|for) \\((?:int \\w+ = [^;]*; )?(\\w+) <=? .*");
+        for (int i = 0; i < lines.size(); i++) {
+            Matcher m = head.matcher(lines.get(i));
+            boolean loop = lines.get(i).matches(" *(while|for|do)\\b.*");
+            due.holds("a counter and a bound: " + lines.get(i), !loop || m.matches());
+            boolean counted = !loop;
+            for (int j = i; loop && m.matches() && !lines.get(j).equals(m.group(1) + "}"); j++) {
+                counted |= lines.get(j).contains(m.group(2) + "++");
+            }
+            due.holds("counted: " + lines.get(i), counted);
         }
     }
 

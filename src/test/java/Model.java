@@ -360,17 +360,17 @@ final class Model {
 
     // the face, by numbers
 
-    int act(int method, int[] n) {
+    int act(Call call, int[] n) {
         St before = s.copy();
-        int r = switch (method) {
-            case 0 -> doSetUp(n[0], n[1] == 1);
-            case 1 -> doSetSecond(n[0]);
-            case 2 -> doPrepare(n[0]);
-            case 3 -> doPromise(n[0], n[1]);
-            case 4 -> doPropose(n[0], n[1], n[2]);
-            case 5 -> doVote(n[0], n[1], n[2]);
-            case 6 -> doTrim(n[0]);
-            case 7 -> doPerform();
+        int r = switch (call) {
+            case SET_UP -> doSetUp(n[0], n[1] == 1);
+            case SET_SECOND -> doSetSecond(n[0]);
+            case PREPARE -> doPrepare(n[0]);
+            case PROMISE -> doPromise(n[0], n[1]);
+            case PROPOSE -> doPropose(n[0], n[1], n[2]);
+            case VOTE -> doVote(n[0], n[1], n[2]);
+            case TRIM -> doTrim(n[0]);
+            case PERFORM -> doPerform();
             default -> doRestore();
         };
         if (r >= 0) {
@@ -390,21 +390,22 @@ final class Model {
         return prefix();
     }
 
-    int call(int method, int[] n) {
-        return switch (method) {
-            case 0, 1, 2, 3, 4, 5, 6, 7, 8 -> act(method, n);
-            case 9 -> text.length() >= 60 ? -3 : text.append((char) n[0]).length();
-            case 10 -> clear();
-            case 11 -> n[0] < 0 || n[0] > 2 ? -2 : refusal == null ? -5 : refusal[n[0]];
-            case 12 -> undo();
-            case 13 -> keep();
-            case 14 -> acceptor(n[0], n[1]);
-            case 15 -> voted(n[0], n[1], n[2]);
-            case 16 -> proposer(n[0], n[1]);
-            case 17 -> proposed(n[0], n[1], n[2]);
-            case 18 -> slot(n[0], n[1]);
-            case 19 -> could(n[0], n[1]);
-            default -> count(n[0]);
+    int call(Call call, int[] n) {
+        return switch (call) {
+            case SET_UP, SET_SECOND, PREPARE, PROMISE, PROPOSE, VOTE, TRIM, PERFORM, RESTORE -> act(call, n);
+            case TYPE -> text.length() >= 60 ? -3 : text.append((char) n[0]).length();
+            case CLEAR_TEXT -> clear();
+            case REFUSAL -> n[0] < 0 || n[0] > 2 ? -2 : refusal == null ? -5 : refusal[n[0]];
+            case UNDO -> undo();
+            case KEEP -> keep();
+            case ACCEPTOR -> acceptor(n[0], n[1]);
+            case VOTED -> voted(n[0], n[1], n[2]);
+            case PROPOSER -> proposer(n[0], n[1]);
+            case PROPOSED -> proposed(n[0], n[1], n[2]);
+            case SLOT -> slot(n[0], n[1]);
+            case COULD -> could(n[0], n[1]);
+            case WITNESS -> witness(n[0], n[1], n[2], n[3]);
+            case COUNT -> count(n[0]);
         };
     }
 
@@ -522,6 +523,23 @@ final class Model {
             }
         }
         return able.size() >= secondSize(slot) ? 1 : 0;
+    }
+
+    /** Looks at all pairs of sets, where the class takes the lowest members. */
+    static int witness(int voters, int first, int second, int which) {
+        boolean bad = voters < 1 || voters > 63 || first < 1 || first > 6 || second < 1 || second > 6;
+        if (bad || which < 0 || which > 1) {
+            return -2;
+        }
+        for (int a = 1; a <= 63; a++) {
+            for (int b = 1; b <= 63; b++) {
+                boolean apart = (a & ~voters) == 0 && (b & ~voters) == 0 && (a & b) == 0;
+                if (apart && Integer.bitCount(a) == first && Integer.bitCount(b) == second) {
+                    return which == 0 ? a : b;
+                }
+            }
+        }
+        return -5;
     }
 
     int count(int what) {

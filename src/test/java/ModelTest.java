@@ -1,11 +1,9 @@
+import java.util.Arrays;
 import java.util.Random;
 
-/** All promises but 22: drawn runs of 512 calls, each answer compared with that of the model. */
+/** All promises: drawn runs of 512 calls, each answer compared with that of the model. */
 public final class ModelTest {
-    private static final String[] NAMES = {"setUp", "setSecond", "prepare", "promise", "propose", "vote", "trim",
-        "perform", "restore", "type", "clearText", "refusal", "undo", "keep", "acceptor", "voted", "proposer",
-        "proposed", "slot", "could", "count"};
-    private static final int[] ARGUMENTS = {2, 1, 1, 2, 3, 3, 1, 0, 0, 1, 0, 1, 0, 0, 2, 3, 2, 3, 2, 2, 1};
+    private static final Call[] CALLS = Call.values();
     private static final String SIGNS = "nyvadu0123456789,;; x-";
 
     private final Random random;
@@ -40,7 +38,7 @@ public final class ModelTest {
 
     private void run(int kind) {
         if (kind > 0) {
-            both(1, random.nextInt(6) + 1, 0, 0);
+            both(Call.SET_SECOND, random.nextInt(6) + 1);
         }
         for (int i = 0; i < 511 && !wrong; ) {
             if (kind == 3 && random.nextInt(6) == 0) {
@@ -66,23 +64,24 @@ public final class ModelTest {
             a = voters[random.nextInt(voters.length)];
         }
         if (draw < 4) {
-            both(0, a, random.nextInt(4) > 0 ? 1 : 0, 0);
+            both(Call.SET_UP, a, random.nextInt(4) > 0 ? 1 : 0);
         } else if (draw < (quiet ? 6 : 10)) {
-            both(2, p, 0, 0);
+            both(Call.PREPARE, p);
         } else if (draw < 28) {
-            both(3, p, a, 0);
+            both(Call.PROMISE, p, a);
         } else if (draw < 45) {
-            both(4, p, near, value());
+            both(Call.PROPOSE, p, near, value());
         } else if (draw < 82) {
-            both(5, p, near, a);
+            both(Call.VOTE, p, near, a);
         } else if (draw < 84) {
-            both(6, Math.max(1, model.prefix() - random.nextInt(4)), 0, 0);
+            both(Call.TRIM, Math.max(1, model.prefix() - random.nextInt(4)));
         } else if (draw < 87) {
-            both(12, 0, 0, 0);
+            both(Call.UNDO);
         } else if (draw < 88) {
-            both(random.nextInt(3) == 0 ? 8 : 13, 0, 0, 0);
+            both(random.nextInt(3) == 0 ? Call.RESTORE : Call.KEEP);
         } else {
-            both(random.nextInt(NAMES.length), argument(), argument(), argument());
+            Call call = CALLS[random.nextInt(CALLS.length)];
+            both(call, argument(), argument(), argument(), argument());
         }
     }
 
@@ -107,12 +106,12 @@ public final class ModelTest {
     /** Types a text, mostly without a fault, and performs it; answers how many calls that took. */
     private int text() {
         String orders = orders();
-        both(10, 0, 0, 0);
+        both(Call.CLEAR_TEXT);
         for (int i = 0; i < orders.length(); i++) {
-            both(9, orders.charAt(i), 0, 0);
+            both(Call.TYPE, orders.charAt(i));
         }
-        both(7, 0, 0, 0);
-        both(11, random.nextInt(3), 0, 0);
+        both(Call.PERFORM);
+        both(Call.REFUSAL, random.nextInt(3));
         return orders.length() + 3;
     }
 
@@ -158,64 +157,34 @@ public final class ModelTest {
         }
     }
 
-    private void both(int method, int first, int middle, int last) {
-        int[] n = {first, middle, last};
-        if (method == 0) {
-            n[1] = middle == 1 ? 1 : 0;
+    private void both(Call call, int... numbers) {
+        int[] n = Arrays.copyOf(numbers, call.ranges.length);
+        if (call == Call.SET_UP) {
+            n[1] = n[1] == 1 ? 1 : 0;
         }
-        int want = model.call(method, n);
-        int got = called(method, n);
-        done.append(NAMES[method]).append('(');
-        for (int i = 0; i < ARGUMENTS[method]; i++) {
-            done.append(i > 0 ? ", " : "").append(n[i]);
-        }
-        done.append(") = ").append(got).append('\n');
+        int want = model.call(call, n);
+        int got = call.on(x, n);
+        done.append(call.form(n)).append(" = ").append(got).append('\n');
         if (got != want && !wrong) {
             wrong = true;
             System.out.println(done + "due is " + want);
         }
     }
 
-    private int called(int method, int[] n) {
-        return switch (method) {
-            case 0 -> x.setUp(n[0], n[1] == 1);
-            case 1 -> x.setSecond(n[0]);
-            case 2 -> x.prepare(n[0]);
-            case 3 -> x.promise(n[0], n[1]);
-            case 4 -> x.propose(n[0], n[1], n[2]);
-            case 5 -> x.vote(n[0], n[1], n[2]);
-            case 6 -> x.trim(n[0]);
-            case 7 -> x.perform();
-            case 8 -> x.restore();
-            case 9 -> x.type((char) n[0]);
-            case 10 -> x.clearText();
-            case 11 -> x.refusal(n[0]);
-            case 12 -> x.undo();
-            case 13 -> x.keep();
-            case 14 -> x.acceptor(n[0], n[1]);
-            case 15 -> x.voted(n[0], n[1], n[2]);
-            case 16 -> x.proposer(n[0], n[1]);
-            case 17 -> x.proposed(n[0], n[1], n[2]);
-            case 18 -> x.slot(n[0], n[1]);
-            case 19 -> x.could(n[0], n[1]);
-            default -> x.count(n[0]);
-        };
-    }
-
     /** Compares all that is told; these calls come on top of the 512, as they change nothing. */
     private void pictures() {
         for (int what = -1; what <= 11; what++) {
-            both(20, what, 0, 0);
+            both(Call.COUNT, what);
         }
         for (int what = 0; what <= 2; what++) {
-            both(11, what, 0, 0);
+            both(Call.REFUSAL, what);
             for (int a = 0; a < 6; a++) {
-                both(14, a, what, 0);
+                both(Call.ACCEPTOR, a, what);
             }
         }
         for (int p = 0; p < 3; p++) {
             for (int what = 0; what <= 3; what++) {
-                both(16, p, what, 0);
+                both(Call.PROPOSER, p, what);
             }
         }
         for (int slot = 1; slot <= 16; slot++) {
@@ -225,19 +194,19 @@ public final class ModelTest {
 
     private void slotPicture(int slot) {
         for (int what = 0; what <= 5; what++) {
-            both(18, slot, what, 0);
+            both(Call.SLOT, slot, what);
         }
         for (int a = 0; a < 6; a++) {
-            both(15, a, slot, 0);
-            both(15, a, slot, 1);
-            both(19, slot, Math.max(1, model.acceptor(a, 1)), 0);
-            both(19, slot, Math.max(1, model.voted(a, slot, 0)), 0);
+            both(Call.VOTED, a, slot, 0);
+            both(Call.VOTED, a, slot, 1);
+            both(Call.COULD, slot, Math.max(1, model.acceptor(a, 1)));
+            both(Call.COULD, slot, Math.max(1, model.voted(a, slot, 0)));
         }
         for (int p = 0; p < 3; p++) {
             for (int what = 0; what <= 2; what++) {
-                both(17, p, slot, what);
+                both(Call.PROPOSED, p, slot, what);
             }
-            both(19, slot, p + 1 + 3 * random.nextInt(6), 0);
+            both(Call.COULD, slot, p + 1 + 3 * random.nextInt(6));
         }
     }
 }

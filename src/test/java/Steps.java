@@ -45,6 +45,18 @@ final class Steps {
         return x.slot(slot, 0);
     }
 
+    /** Lets a proposer prepare until it has a ballot, by texts of twenty orders where that is far. */
+    static void prepareUpTo(AgreedSlots x, int proposer, int ballot) {
+        String twenty = (";n" + proposer).repeat(20).substring(1);
+        write(x, twenty);
+        while (x.proposer(proposer, 0) + 60 <= ballot && x.perform() == 20) {
+            continue;
+        }
+        while (x.proposer(proposer, 0) < ballot && x.prepare(proposer) > 0) {
+            continue;
+        }
+    }
+
     /** An object whose slots up to one are chosen, with values 1, 2 and so on, by the proposer 0. */
     static AgreedSlots chosenUpTo(int last) {
         AgreedSlots x = new AgreedSlots();

@@ -4,6 +4,9 @@ public final class TextsTest {
         Due due = new Due("promises 9 to 12");
         type(due);
         faults(due);
+        textsThatEndTooEarly(due);
+        eachCharacterAtEachPlace(due);
+        numbersOfOneToThreeDigits(due);
         strangeCharacters(due);
         perform(due);
         allOrNone(due);
@@ -11,6 +14,8 @@ public final class TextsTest {
         refusal(due);
         refusalOfEachError(due);
         mostOrders(due);
+        sixtyCharacters(due);
+        theTextStays(due);
         due.end();
     }
 
@@ -56,6 +61,60 @@ public final class TextsTest {
             due.is("no act", x.count(9), 0);
             due.is("no refusal", x.refusal(0), Steps.NONE);
             due.is("the text stays", x.count(10), texts[i].length());
+        }
+    }
+
+    /** The length of the text if it ends too early: each beginning of a text, the empty one too. */
+    private static void textsThatEndTooEarly(Due due) {
+        String text = "n0;y0,5;v2,16,163;a1,9,4;d5;u0";
+        boolean[] ends = new boolean[text.length() + 1];
+        for (int end : new int[] {2, 7, 15, 16, 17, 24, 27, 30}) {
+            ends[end] = true;
+        }
+        for (int length = 0; length <= text.length(); length++) {
+            AgreedSlots x = new AgreedSlots();
+            int answer = Steps.perform(x, text.substring(0, length));
+            int done = length == 2 ? 1 : length == 7 ? 2 : Steps.NOT_POSSIBLE;
+            due.is("the first " + length + " of " + text, answer, ends[length] ? done : -100 - length);
+        }
+    }
+
+    /** The fault is the first character that is not allowed at its place, whatever comes behind it. */
+    private static void eachCharacterAtEachPlace(Due due) {
+        String text = "d5;v2,16,163;n0;a1,9,4;y0,5;u0";
+        for (int place = 0; place < text.length(); place++) {
+            for (int code = 0; code < 256; code++) {
+                Model model = new Model();
+                model.text.append(text).setCharAt(place, (char) code);
+                AgreedSlots x = new AgreedSlots();
+                int answer = Steps.perform(x, model.text.toString());
+                int fault = model.fault();
+                boolean read = answer > 0 || answer == Steps.NOT_POSSIBLE;
+                due.is("the character " + code + " at " + place, read ? -1 : -100 - answer, fault);
+            }
+        }
+    }
+
+    /** Slots and values by one to three digits, without a zero in front (so not by a single 0 either). */
+    private static void numbersOfOneToThreeDigits(Due due) {
+        for (int number = 0; number <= 1000; number++) {
+            String digits = Integer.toString(number);
+            int fault = number == 0 ? 0 : number > 999 ? 3 : -1;
+            AgreedSlots x = new AgreedSlots();
+            Steps.lead(x, 0, 3);
+            int slot = Steps.perform(x, "v0," + digits + ",9");
+            boolean possible = number <= 3;
+            due.is("the slot " + digits, slot, fault >= 0 ? -103 - fault : possible ? 1 : Steps.NOT_POSSIBLE);
+            x.setUp(5, false);
+            int value = Steps.perform(x, "v0,2," + digits + ";d5");
+            boolean free = number != 2 && number <= 163 && number != 100;
+            due.is("the value " + digits, value, fault >= 0 ? -105 - fault : free ? 2 : Steps.NOT_POSSIBLE);
+        }
+        AgreedSlots x = new AgreedSlots();
+        for (String digits : new String[] {"00", "01", "007", "0999"}) {
+            due.is("the slot " + digits, Steps.perform(x, "v0," + digits + ",9"), -103);
+            due.is("the value " + digits, Steps.perform(x, "v0,9," + digits), -105);
+            due.is("the slot of a vote " + digits, Steps.perform(x, "a0," + digits + ",0"), -103);
         }
     }
 
@@ -193,5 +252,51 @@ public final class TextsTest {
             Steps.NOT_POSSIBLE);
         due.is("refusal(0)", x.refusal(0), 15);
         due.is("refusal(2)", x.refusal(2), 45);
+    }
+
+    /** A text of at most 60 characters: one that fills it is read to its end. */
+    private static void sixtyCharacters(Due due) {
+        AgreedSlots x = new AgreedSlots();
+        String text = "n0;".repeat(17) + "y0,0;y0,5";
+        due.is("sixty characters", Steps.perform(x, text), 19);
+        due.is("length", x.count(10), 60);
+        due.is("the last order is done", x.proposer(0, 2), 33);
+        Steps.write(x, text.substring(0, 59));
+        due.is("an acceptor is missing", x.perform(), -159);
+        due.is("a wrong one is typed", x.type('6'), 60);
+        due.is("the fault is the last character", x.perform(), -159);
+        Steps.write(x, text + "0");
+        due.is("the 61st is not typed", x.perform(), 19);
+        Steps.write(x, "n0;".repeat(20));
+        due.is("too early at the end of the room", x.perform(), -160);
+        due.is("a character at the end of the room", x.type('n'), Steps.FULL);
+        due.is("it is not typed", x.perform(), -160);
+        due.is("clearText()", x.clearText(), 60);
+        due.is("the least character", x.type((char) 0), 1);
+        due.is("the greatest character", x.type((char) 65535), 2);
+    }
+
+    /** Performs the orders of the text, which stays: done, refused, or with a fault. */
+    private static void theTextStays(Due due) {
+        AgreedSlots x = new AgreedSlots();
+        due.is("the empty text", x.perform(), -100);
+        due.is("no length", x.count(10), 0);
+        due.is("done", Steps.perform(x, "d3;n1"), 2);
+        due.is("length", x.count(10), 5);
+        due.is("done again", x.perform(), 2);
+        due.is("two ballots", x.proposer(1, 0), 5);
+        x.type(';');
+        due.is("with a fault", x.perform(), -106);
+        due.is("length", x.count(10), 6);
+        x.type('y');
+        x.type('1');
+        x.type(',');
+        x.type('3');
+        due.is("refused", x.perform(), Steps.NOT_POSSIBLE);
+        due.is("length", x.count(10), 10);
+        due.is("the third order", x.refusal(0), 2);
+        due.is("refused again", x.perform(), Steps.NOT_POSSIBLE);
+        due.is("clearText()", x.clearText(), 10);
+        due.is("no more fault than that of the empty text", x.perform(), -100);
     }
 }

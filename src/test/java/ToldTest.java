@@ -165,31 +165,14 @@ public final class ToldTest {
         }
     }
 
-    /** Looks at all pairs of sets, where the class takes the lowest members. */
     private static void witnessIsTheLowest(Due due) {
         AgreedSlots x = new AgreedSlots();
         for (int voters = 1; voters <= 63; voters++) {
-            for (int sizes = 0; sizes < 36; sizes++) {
-                int first = sizes / 6 + 1;
-                int second = sizes % 6 + 1;
-                int[] pair = lowestPair(voters, first, second);
-                String call = "witness(" + voters + ", " + first + ", " + second + ", ";
-                due.is(call + "0)", x.witness(voters, first, second, 0), pair[0]);
-                due.is(call + "1)", x.witness(voters, first, second, 1), pair[1]);
+            for (int sizes = 0; sizes < 72; sizes++) {
+                int[] n = {voters, sizes / 12 + 1, sizes / 2 % 6 + 1, sizes % 2};
+                due.is("lowest", Call.WITNESS, n, Call.WITNESS.on(x, n), Model.witness(n[0], n[1], n[2], n[3]));
             }
         }
-    }
-
-    private static int[] lowestPair(int voters, int first, int second) {
-        for (int a = 1; a <= 63; a++) {
-            for (int b = 1; b <= 63; b++) {
-                boolean inside = (a & ~voters) == 0 && (b & ~voters) == 0 && (a & b) == 0;
-                if (inside && Integer.bitCount(a) == first && Integer.bitCount(b) == second) {
-                    return new int[] {a, b};
-                }
-            }
-        }
-        return new int[] {Steps.NONE, Steps.NONE};
     }
 
     private static void count(Due due) {

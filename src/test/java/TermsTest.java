@@ -1,4 +1,4 @@
-/** The sentences of the document's 'Terms' that name an edge, from 'Acceptors and voters' to 'Proposers and ballots'. */
+/** The sentences of the document's 'Terms' that name an edge: acceptors and voters, proposers and ballots. */
 public final class TermsTest {
     private static final int[] VOTERS_BY_NUMBER = {0, 1, 3, 7, 15, 31, 63};
 

@@ -6,6 +6,7 @@ public final class TermsTest {
         Due due = new Due("terms at their edges");
         valuesAreWordsOrChanges(due);
         eachChangeIsASetOfVoters(due);
+        eachBitIsAnAcceptor(due);
         windowIsThree(due);
         latestChangeCounts(due);
         changeBehindTheWindow(due);
@@ -50,6 +51,32 @@ public final class TermsTest {
                 due.is("voters behind " + value, x.slot(4, 2), value > 100 ? value - 100 : 7);
                 due.is("changes with " + value, x.count(8), value > 100 ? 1 : 0);
             }
+        }
+    }
+
+    /** 1 for the acceptor 0, 2 for 1, 4 for 2, and so on: in a change of voters, and in the sets that are told. */
+    private static void eachBitIsAnAcceptor(Due due) {
+        int[] bits = {1, 2, 4, 8, 16, 32};
+        for (int set = 1; set <= 63; set++) {
+            AgreedSlots x = new AgreedSlots();
+            Steps.lead(x, 0, 63);
+            Steps.choose(x, 0, 1, 100 + set, 3);
+            due.is("propose(0, 4, 9) with " + set, x.propose(0, 4, 9), 9);
+            int votes = 0;
+            for (int a = 0; a < 6; a++) {
+                boolean voter = set / bits[a] % 2 == 1;
+                votes += voter ? 1 : 0;
+                due.is("a vote of " + a + " with " + set, x.vote(0, 4, a), voter ? votes : Steps.NOT_POSSIBLE);
+            }
+        }
+        for (int a = 0; a < 6; a++) {
+            AgreedSlots x = new AgreedSlots();
+            Steps.lead(x, 1, bits[a]);
+            due.is("the promise of " + a, x.proposer(1, 2), bits[a]);
+            due.is("promised by " + a, x.acceptor(a, 1), 2);
+            x.setUp(a, false);
+            due.is("all but " + a + " are up", x.count(4), 63 - bits[a]);
+            due.is("it is down", x.acceptor(a, 0), 0);
         }
     }
 
